@@ -268,22 +268,22 @@ public final class CreweChange {
     }
 
     public int mean(int stop, int minute) {
-        return isPoint(stop, minute) ? drawn(means, now).worthAt(table, stop, minute) : BAD;
+        return isPoint(stop, minute) ? means.drawnFor(table, now).worthAt(table, stop, minute) : BAD;
     }
 
     public int taken(int stop, int minute) {
-        return isPoint(stop, minute) ? drawn(means, now).bestTrain(table, stop, minute) : BAD;
+        return isPoint(stop, minute) ? means.drawnFor(table, now).bestTrain(table, stop, minute) : BAD;
     }
 
     public int sure(int stop, int minute) {
-        return isPoint(stop, minute) ? drawn(sures, now).worthAt(table, stop, minute) : BAD;
+        return isPoint(stop, minute) ? sures.drawnFor(table, now).worthAt(table, stop, minute) : BAD;
     }
 
     public int cheap(int stop, int minute) {
         if (!isPoint(stop, minute)) {
             return BAD;
         }
-        int worth = drawn(cheaps, now).worthAt(table, stop, minute);
+        int worth = cheaps.drawnFor(table, now).worthAt(table, stop, minute);
         return worth == IMPOSSIBLE ? NONE : worth;
     }
 
@@ -291,7 +291,7 @@ public final class CreweChange {
         if (!now.isStop(stop) || !within(q, 0, CERTAIN)) {
             return BAD;
         }
-        Chart chart = drawn(sures, now);
+        Chart chart = sures.drawnFor(table, now);
         for (int minute = LATEST_MINUTE; minute >= 0; minute--) {
             if (chart.worthAt(table, stop, minute) >= q) {
                 return minute;
@@ -371,7 +371,7 @@ public final class CreweChange {
         if (!within(what, 0, 1)) {
             return BAD;
         }
-        Chart chart = drawn(means, now);
+        Chart chart = means.drawnFor(table, now);
         int who = NONE;
         int greatest = NONE;
         for (int i = 0; i < now.guests; i++) {
@@ -385,7 +385,11 @@ public final class CreweChange {
     }
 
     public int ride(int stop, int minute) {
-        return isPoint(stop, minute) ? rideOn(now, stop, minute) : BAD;
+        if (!isPoint(stop, minute)) {
+            return BAD;
+        }
+        means.drawnFor(table, now);
+        return rideOn(now, stop, minute);
     }
 
     public int seed(int v) {
@@ -585,6 +589,7 @@ public final class CreweChange {
         if (!keeps || kept.guests == 0) {
             return NO;
         }
+        means.drawnFor(table, kept);
         int z = kept.z;
         int right = rightAhead(n, told);
         kept.z = z;
@@ -693,20 +698,13 @@ public final class CreweChange {
         now.stamp = stamps;
     }
 
-    private Chart drawn(Chart chart, World world) {
-        table.refresh(world);
-        chart.refresh(table);
-        return chart;
-    }
-
-    /** The minute at which a ride in a world ends; how many trains it took stays in ridden. */
+    /** The minute at which a ride in the world that means is drawn for ends; how many trains it took stays in ridden. */
     private int rideOn(World world, int fromStop, int fromMinute) {
-        Chart chart = drawn(means, world);
         int stop = fromStop;
         int minute = fromMinute;
         ridden = 0;
         for (int i = 0; i < RIDE_BOUND && stop != world.goal; i++) {
-            int train = chart.bestTrain(table, stop, minute);
+            int train = means.bestTrain(table, stop, minute);
             if (train == NONE) {
                 return NOT_THERE;
             }
@@ -1097,11 +1095,14 @@ public final class CreweChange {
             this.sort = sort;
         }
 
-        void refresh(Timetable table) {
+        /** This chart, after it and the timetable have been brought to what a world is now. */
+        Chart drawnFor(Timetable table, World world) {
+            table.refresh(world);
             if (stamp != table.stamp) {
                 stamp = table.stamp;
                 fillRow(table);
             }
+            return this;
         }
 
         /** From the last minute on: a train takes a minute at least, so what lies behind it is known by then. */
@@ -1110,18 +1111,15 @@ public final class CreweChange {
                 row[stop * WIDTH] = worthOfNone();
             }
             for (int place = 1; place <= table.minutes; place++) {
+                int minute = table.minuteAt[place];
                 for (int stop = 0; stop < MOST_STOPS; stop++) {
                     row[stop * WIDTH + place] = row[stop * WIDTH + place - 1];
                 }
-                fillPlace(table, place, table.minuteAt[place]);
-            }
-        }
-
-        private void fillPlace(Timetable table, int place, int minute) {
-            for (int i = 0; i < table.trains; i++) {
-                if (within(minute, table.goes[i], table.lastMinute(i))) {
-                    bestTrain(table, table.from[i], minute);
-                    row[table.from[i] * WIDTH + place] = bestWorth;
+                for (int i = 0; i < table.trains; i++) {
+                    if (within(minute, table.goes[i], table.lastMinute(i))) {
+                        bestTrain(table, table.from[i], minute);
+                        row[table.from[i] * WIDTH + place] = bestWorth;
+                    }
                 }
             }
         }
@@ -1395,11 +1393,8 @@ public final class CreweChange {
         }
 
         private boolean readPiece(int open, int nots) {
-            if (sort == DIGITS) {
-                return readNumber();
-            }
-            if (sort == LETTERS) {
-                return readName();
+            if (sort == DIGITS || sort == LETTERS) {
+                return readLeaf(sort == DIGITS ? numberHere() : nameHere());
             }
             int sign = sort == SIGN ? byteAt(start) : 0;
             if (sign == '!' && nots < MOST_OPEN) {
@@ -1419,23 +1414,28 @@ public final class CreweChange {
             return true;
         }
 
-        private boolean readNumber() {
+        /** The code of the number here, or NONE. */
+        private int numberHere() {
             if (end - start > MOST_DIGITS) {
-                return false;
+                return NONE;
             }
             int number = 0;
             for (int i = start; i < end; i++) {
                 number = 10 * number + byteAt(i) - '0';
             }
-            return putLeaf(number);
+            return number;
         }
 
-        private boolean readName() {
+        /** The code of the name here, or NONE. */
+        private int nameHere() {
             int name = end - start == 1 ? namesOf(key).indexOf((char) byteAt(start)) : -1;
-            return name >= 0 && putLeaf(Text.NAMES + name);
+            return name < 0 ? NONE : Text.NAMES + name;
         }
 
-        private boolean putLeaf(int code) {
+        private boolean readLeaf(int code) {
+            if (code == NONE) {
+                return false;
+            }
             leaves++;
             put(code);
             goOn();

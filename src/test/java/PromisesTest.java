@@ -33,6 +33,9 @@ public final class PromisesTest {
         rows();
         images();
         refusalsChangeNothing();
+        everyMinuteCounts();
+        askedAgainAfterChanges();
+        imagesRide();
         System.out.println(wrong == 0 ? "all promises are as due" : wrong + " answers are not as due");
         if (wrong != 0) System.exit(1);
     }
@@ -300,6 +303,21 @@ public final class PromisesTest {
         x.set(1, 1, 413);
         due(x.mends(0, 1, 5000), NONE);
         due(x.told(1, 3), 413);
+        // of all pairs of steps the one that is missed by the least, wherever it stands
+        CreweChange y = withStops(0, 4, 0);
+        y.train(1, 1, 600, 10);
+        y.train(0, 12, 600, 5);
+        y.chances(0, 0, 0, 100);
+        y.chances(1, 40, 30, 30);
+        due(y.mends(0, 1, 1), 20);
+        due(y.mends(0, 1, 3001), 25);
+        due(y.mends(0, 1, 6001), 30);
+        due(y.mends(0, 1, 10000), 30);
+        y.chances(1, 30, 30, 30);
+        due(y.mends(0, 1, 10000), 35);
+        y.chances(0, 0, 0, 0);
+        y.chances(1, 0, 0, 0);
+        due(y.mends(0, 1, 10000), 14);
         // b may leave so much later that it is no minute to leave any more
         x.set(0, 1, 1439);
         x.set(0, 2, 600);
@@ -418,6 +436,15 @@ public final class PromisesTest {
         due(x.mean(0, 600), (67 * 63300 + 33 * 72005) / 100);
         x.chances(0, 70, 0, 0);
         due(x.mean(0, 600), 69000);
+        // 63390.99 is cut
+        x.turns(3, 1);
+        x.chances(3, 57, 0, 0);
+        x.chances(0, 1, 0, 0);
+        due(x.mean(1, 700), 72399);
+        due(x.mean(0, 600), 63390);
+        x.turns(3, 0);
+        x.chances(3, 1, 0, 0);
+        x.chances(0, 70, 0, 0);
         due(x.mean(0, 2880), BAD);
         due(x.mean(0, -1), BAD);
         due(x.mean(3, 0), BAD);
@@ -574,7 +601,7 @@ public final class PromisesTest {
         for (int i = 0; i < good.length; i++) due(text(x, good[i]), i);
         due(x.count(2), good.length);
         Object[][] bad = {
-            {"", 0}, {"  ", 2}, {"wait 1", 0}, {"waitss 1", 0}, {" 12", 1}, {"(1)", 0}, {"Waits 1", 0}, {"waits", 5}, {"waits  ", 7},
+            {"", 0}, {"  ", 2}, {"wait 1", 0}, {"xaits 1", 0}, {"wxits 1", 0}, {"waitx 1", 0}, {"tidy n", 0}, {"wall w", 0}, {"waitss 1", 0}, {" 12", 1}, {"(1)", 0}, {"Waits 1", 0}, {"waits", 5}, {"waits  ", 7},
             {"waits1", 5}, {"waitsk", 0}, {"waits k1", 7}, {"waits 1k", 7}, {"waits 1 2", 8}, {"waits k k", 8}, {"waits 12345", 6},
             {"waits 00001", 6}, {"waits s", 6}, {"waits w", 6}, {"tide k", 5}, {"walk k", 5}, {"walk n", 5}, {"waits kn", 6},
             {"waits 1+", 8}, {"waits 1+ ", 9}, {"waits +1", 6}, {"waits -1", 6}, {"waits (1", 8}, {"waits (1))", 9}, {"waits 1)", 7},
@@ -830,8 +857,14 @@ public final class PromisesTest {
         due(x.pour(0, 0), KIND);
         x.mark(0, 0, 101);
         due(x.pour(0, 0), KIND);
-        x.mark(0, 2, 0);
+        for (int i = 0; i < 2; i++) {
+            x.sheet(0, 1, 3);
+            x.mark(0, i, NONE);
+            due(x.pour(0, 0), KIND);
+        }
+        x.mark(0, 1, 101);
         due(x.pour(0, 0), BAD);
+        x.mark(0, 1, 1);
         x.mark(0, 0, -1);
         due(x.pour(0, 0), BAD);
         due(x.told(0, 10), 40);
@@ -859,6 +892,14 @@ public final class PromisesTest {
         due(x.reads(2, 0), 1);
         x.sheet(2, 0, 0);
         due(x.reads(2, 0), NONE);
+        // place 4 is no step, not even of the next train
+        x.train(1, 1, 700, 10);
+        x.sheet(2, 0, 5);
+        for (int i = 0; i < 4; i++) x.mark(2, i, there[i]);
+        x.mark(2, 4, 710);
+        due(x.reads(2, 0), 4);
+        x.set(0, 1, 601);
+        due(x.reads(2, 0), 0);
     }
 
     private static void copies() {
@@ -1098,6 +1139,8 @@ public final class PromisesTest {
             feed(y, "walk");
             y.part();
             y.clear();
+            y.add(2);
+            y.add(2);
             y.day(9);
             y.aim(0, 1);
             y.aim(1, 5);
@@ -1123,7 +1166,9 @@ public final class PromisesTest {
             due(y.told(0, 0), 0);
             due(y.told(1, 6), 0);
             due(y.mean(0, 600), 63300);
+            due(y.judge(), NONE);
             due(y.plan(0), 10000);
+            due(y.plan(1), 6330000);
             due(y.gather(1), 0);
             due(y.walk(1), 3);
             due(y.trim(0), 0);
@@ -1171,5 +1216,171 @@ public final class PromisesTest {
         for (int what = 0; what <= 10; what++) due(x.count(what), all[what]);
         due(x.told(0, 3), 600);
         due(x.told(0, 10), 100);
+    }
+
+    /** Twelve trains, each of which waits 30 minutes, none while another one does. */
+    private static void everyMinuteCounts() {
+        of(20);
+        CreweChange x = withStops(0, 0);
+        for (int i = 0; i < 12; i++) x.train(i == 0 ? 0 : 1, 10, 100 * i, 1 + i);
+        text(x, "waits 30");
+        for (int i = 0; i < 12; i++) {
+            due(x.mean(1, i == 0 ? 0 : 100 * i - 69), 100 * (100 * i + 1 + i));
+            for (int wait = 0; wait <= 30; wait++) due(x.mean(1, 100 * i + wait), 100 * (100 * i + wait + 1 + i));
+        }
+        due(x.mean(1, 1131), 288000);
+        of(21);
+        due(x.taken(1, 30), 0);
+        due(x.taken(1, 31), 1);
+        due(x.taken(1, 1130), 11);
+        of(24);
+        due(x.latest(1, 10000), 720 - 8);
+        x.aim(1, 1);
+        due(x.latest(1, 10000), 0);
+        x.aim(1, 0);
+        due(x.latest(1, 1), NONE);
+        text(x, "waits 0");
+        x.aim(1, 1);
+        due(x.latest(1, 10000), 0);
+        of(20);
+        due(x.mean(1, 0), 100);
+        due(x.mean(1, 1), 10200);
+        // there and back again, a minute each, as long as they wait
+        CreweChange y = withStops(50, 0, 0);
+        y.train(0, 12, 600, 1);
+        y.train(0, 21, 600, 1);
+        y.train(0, 10, 600, 1);
+        text(y, "waits (n<2)*30");
+        due(y.mean(1, 600), 60100);
+        due(y.mean(2, 600), 288000);
+        of(33);
+        // to go there and back first is as good: of several the least is taken
+        y.set(2, 1, 1439);
+        due(y.taken(1, 600), 0);
+        due(y.taken(1, 630), 2);
+        text(y, "walk 0");
+        text(y, "waits (n<2)*30+n/2*5");
+        due(y.mean(2, 600), 144000);
+        due(y.ride(2, 600), 1440);
+        of(23);
+        y.aim(1, 1500);
+        due(y.cheap(2, 600), 0);
+        y.set(1, 0, 3);
+        due(y.cheap(2, 600), 3);
+        due(y.cheap(2, 631), NONE);
+    }
+
+    /** What has been worked out for one call must not stand when something has changed. */
+    private static void askedAgainAfterChanges() {
+        of(3);
+        CreweChange x = withStops(5);
+        due(x.walk(0), 5);
+        x.stop(7);
+        due(x.walk(1), 7);
+        x.stop(9);
+        of(12);
+        x.train(0, 12, 600, 10);
+        due(x.told(0, 14), 610);
+        x.train(3, 20, 619, 10);
+        due(x.makes(0, 1), 10000);
+        x.set(1, 1, 618);
+        due(x.makes(0, 1), 0);
+        of(13);
+        due(x.never(0), 1);
+        x.set(1, 1, 619);
+        due(x.never(0), 0);
+        of(10);
+        due(x.told(1, 17), 650);
+        x.hangs(1, 0);
+        due(x.told(1, 17), 657);
+        x.turns(0, 2);
+        due(x.told(1, 17), 650);
+        x.turns(0, 1);
+        due(x.told(1, 17), 660);
+        of(20);
+        due(x.mean(1, 600), 62900);
+        x.chances(1, 0, 0, 100);
+        due(x.mean(1, 600), 66000);
+        x.sheet(0, 0, 3);
+        x.pour(0, 1);
+        due(x.mean(1, 600), 62900);
+        x.set(1, 2, 20);
+        due(x.mean(1, 600), 63900);
+        x.aim(0, 2);
+        due(x.mean(1, 600), 61000);
+        of(22);
+        due(x.sure(1, 600), 10000);
+        x.aim(1, 609);
+        due(x.sure(1, 600), 0);
+        of(23);
+        due(x.cheap(1, 600), NONE);
+        x.aim(1, 610);
+        due(x.cheap(1, 600), 0);
+        x.set(0, 0, 9);
+        due(x.cheap(1, 600), 4);
+        of(27);
+        due(x.taken(1, 601), NONE);
+        text(x, "waits d");
+        due(x.taken(1, 601), NONE);
+        of(11);
+        x.day(1);
+        due(x.taken(1, 601), 0);
+        of(47);
+        x.keep();
+        x.day(0);
+        due(x.taken(1, 601), NONE);
+        x.back();
+        due(x.taken(1, 601), 0);
+        x.day(0);
+        due(x.taken(1, 601), NONE);
+        due(x.mean(1, 600), 61000);
+    }
+
+    /** The rides told go by the image's walks, texts and trains, not by those of now. */
+    private static void imagesRide() {
+        of(45);
+        CreweChange x = withStops(9, 4, 9);
+        x.train(0, 1, 600, 10);
+        x.train(2, 12, 608, 10);
+        text(x, "walk w-1");
+        text(x, "waits k*2+d");
+        x.day(1);
+        x.aim(0, 2);
+        x.guest(0, 600);
+        x.keep();
+        due(x.check(1), 1);
+        x.tell(623);
+        due(x.check(1), 2);
+        x.tell(623);
+        x.tell(2);
+        due(x.check(1), 0);
+        text(x, "walk 99");
+        text(x, "waits 0");
+        x.day(0);
+        x.aim(0, 1);
+        x.set(1, 1, 5);
+        due(x.mean(0, 600), 61000);
+        x.tell(623);
+        x.tell(2);
+        due(x.check(1), 0);
+        due(x.mean(0, 600), 61000);
+        due(x.mean(1, 600), 60000);
+        of(47);
+        x.back();
+        due(x.mean(0, 600), 62300);
+        due(x.why(2), 0);
+        due(x.walk(0), 8);
+        // one more ride than is told, and one less
+        x.seed(9);
+        x.guest(2, 7);
+        x.keep();
+        of(45);
+        int[] told = {623, 2, 7, 0, 623, 2, 7, 0};
+        for (int n = 1; n <= 4; n++) {
+            for (int v : told) x.tell(v);
+            due(x.check(n), n == 4 ? 0 : 2 * n + 1);
+            for (int i = 0; i < 2 * n; i++) x.tell(told[i]);
+            due(x.check(4), n == 4 ? 0 : 2 * n + 1);
+        }
     }
 }
