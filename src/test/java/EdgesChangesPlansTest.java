@@ -219,6 +219,14 @@ public final class EdgesChangesPlansTest extends Edge {
         x.set(1, 1, 608);
         int[][] mended = {{1, 1}, {2, 6}, {199, 6}, {200, 11}, {10000, 11}};
         for (int[] m : mended) due(x.mends(0, 1, m[0]), m[1]);
+        of(14, "by the first pair of STEPS alone, and by the last");
+        CreweChange late = change();
+        late.turns(0, 1);
+        late.set(1, 1, 600);
+        due(late.mends(0, 1, 10000), 14);
+        late.chances(0, 0, 0, 100);
+        late.chances(1, 0, 0, 100);
+        due(late.mends(0, 1, 10000), 14 + 21 - 15);
         of(14, "0, if it MAKES v already");
         x.set(1, 1, 609);
         due(x.mends(0, 1, 1), 0);
@@ -365,6 +373,17 @@ public final class EdgesChangesPlansTest extends Edge {
     }
 
     private static void planParts() {
+        of(18, "one TRAIN, the last there is, by its own CHANCES");
+        CreweChange last = crewe();
+        last.clear();
+        last.chances(3, 0, 0, 60);
+        last.chances(2, 0, 0, 0);
+        last.add(3);
+        due(last.plan(0), 100);
+        // tide gives 3 times 9 and the day, 7
+        due(last.plan(1), 100 * (700 + 34 + 5));
+        last.turns(3, 0);
+        due(last.plan(1), 40 * 705 + 60 * 720);
         of(18, "six TRAINS: a long, far above an int");
         CreweChange x = withStops(0, 0, 0, 0, 0, 0);
         int[] ends = {1, 12, 23, 34, 45, 50};

@@ -149,6 +149,13 @@ public final class EdgesRowsImagesTest extends Edge {
             due(x.check(3), 7);
         }
         of(45, "too many, though they are those of the next RIDES");
+        tellRides(x, 2, 3);
+        x.tell(8);
+        due(x.check(3), 7);
+        tellRides(x, 2, 3);
+        x.tell(8);
+        x.tell(1);
+        due(x.check(3), 7);
         tellRides(x, 2, 4);
         due(x.check(3), 7);
         of(45, "the first that is not stands ahead of what is too many");
@@ -188,14 +195,17 @@ public final class EdgesRowsImagesTest extends Edge {
         x.train(0, 1, 600, 10);
         x.train(0, 12, 614, 10);
         x.train(0, 1, 700, 10);
+        // too soon by a minute for who comes by the first and walks
+        x.train(0, 12, 612, 1);
+        text(x, "waits n=3");
         x.aim(0, 2);
         x.guest(0, 600);
         x.guest(0, 701);
         x.guest(0, 601);
         x.guest(2, 1439);
-        x.guest(1, 0);
+        x.guest(1, 613);
         x.keep();
-        int[] told = {624, 2, 2880, 0, 2880, 1, 1439, 0, 624, 1};
+        int[] told = {624, 2, 2880, 0, 2880, 1, 1439, 0, 614, 1};
         for (int again = 0; again < 2; again++) {
             for (int v : told) x.tell(v);
             due(x.check(5), 0);
@@ -206,6 +216,7 @@ public final class EdgesRowsImagesTest extends Edge {
         x.part();
         x.seed(9);
         text(x, "walk 99");
+        text(x, "waits 0");
         for (int v : told) x.tell(v);
         due(x.check(5), 0);
         due(x.count(10), 9);
@@ -235,6 +246,17 @@ public final class EdgesRowsImagesTest extends Edge {
         due(y.count(10), -77);
     }
 
+    private static CreweChange fullWorld() {
+        CreweChange x = new CreweChange();
+        for (int i = 0; i < 6; i++) x.stop(5 + i);
+        for (int i = 0; i < 12; i++) x.train(0, i % 2 == 0 ? 1 : 10, i, 5);
+        for (int i = 0; i < 14; i++) text(x, i < 13 ? "walk 0" : "walk 1");
+        for (int i = 0; i < 6; i++) x.add(i < 5 ? i : 6);
+        x.aim(0, 5);
+        for (int i = 0; i < 10; i++) x.guest(i < 9 ? 5 : 0, 0);
+        return x;
+    }
+
     private static void keep() {
         of(46, "how many TRAINS: none, twelve");
         CreweChange x = new CreweChange();
@@ -243,6 +265,21 @@ public final class EdgesRowsImagesTest extends Edge {
         x.stop(0);
         for (int i = 0; i < 12; i++) x.train(0, 1, i, 5);
         due(x.keep(), 12);
+        of(46, "as many as there may be of all are kept");
+        CreweChange full = fullWorld();
+        due(full.keep(), 12);
+        full.part();
+        full.clear();
+        full.seed(8);
+        due(full.back(), 12);
+        int[] most = {6, 12, 14, 6, 10, 5, 720, 0, 0, 0, 1};
+        for (int what = 0; what <= 10; what++) due(full.count(what), most[what]);
+        due(full.walk(5), 1);
+        due(full.why(2), 13);
+        due(full.told(11, 3), 11);
+        due(full.judge(), 5);
+        due(full.gather(0), 288000);
+        due(full.gather(1), 9);
         of(46, "a later IMAGE takes the place of the one before");
         due(x.back(), 12);
         CreweChange y = withStops(1, 2);
@@ -310,10 +347,13 @@ public final class EdgesRowsImagesTest extends Edge {
     private static void backUndoes() {
         of(47, "all is as THE IMAGE: every call that changes something of it is undone");
         Call[] changes = {y -> y.stop(5), y -> y.train(0, 1, 5, 5), y -> y.turns(0, 2), y -> y.set(0, 0, 9), y -> y.set(0, 1, 9), y -> y.set(0, 2, 9), y -> y.chances(1, 10, 20, 30), y -> y.hangs(2, 1), y -> y.hangs(2, NONE),
-            y -> y.day(9), y -> y.add(0), y -> y.clear(), y -> y.aim(0, 0), y -> y.aim(1, 5), y -> y.guest(0, 0), y -> y.part(), y -> y.ride(0, 590), y -> y.seed(5), y -> pourNew(y)};
+            y -> y.day(9), y -> y.add(0), y -> y.clear(), y -> y.aim(0, 0), y -> y.aim(1, 5), y -> y.guest(0, 0), y -> y.part(), y -> y.ride(0, 590), y -> y.seed(5), y -> pourNew(y), y -> planNew(y)};
         for (Call change : changes) {
             CreweChange x = keptCrewe();
             change.on(x);
+            x.mean(0, 600);
+            x.sure(0, 600);
+            x.cheap(0, 600);
             due(x.back(), 4);
             same(x, keptCrewe());
         }
@@ -335,6 +375,12 @@ public final class EdgesRowsImagesTest extends Edge {
         x.copy(0, 1, 0, 2, 1);
         x.pour(0, 1);
         return x.mark(0, 2, -7);
+    }
+
+    private static long planNew(CreweChange x) {
+        x.clear();
+        x.add(2);
+        return x.add(3);
     }
 
     private static void backLeaves() {

@@ -272,6 +272,10 @@ public final class EdgesSheetsSlotsTest extends Edge {
         due(x.reads(2, 0), 4);
         x.mark(2, 4, 638);
         due(x.reads(2, 0), 4);
+        of(38, "place 4 is no STEP, not even STEP 0 of the next TRAIN");
+        x.train(1, 1, 700, 10);
+        x.mark(2, 4, 710);
+        due(x.reads(2, 0), 4);
         of(38, "of numbers alone: NO NUMBER is passed over, up to place 23");
         CreweChange y = twoSheets();
         y.sheet(2, 1, 24);

@@ -98,6 +98,13 @@ public final class EdgesStopsTrainsTest extends Edge {
         refused(EdgesStopsTrainsTest::sixStops, FULL, y -> y.stop(0), y -> y.stop(99));
         of(2, "BAD ahead of FULL");
         refused(EdgesStopsTrainsTest::sixStops, BAD, y -> y.stop(-1), y -> y.stop(100));
+        of(2, "asked right behind each one");
+        CreweChange asked = new CreweChange();
+        for (int i = 0; i < 6; i++) {
+            due(asked.stop(7 + i), i);
+            due(asked.walk(i), 7 + i);
+            due(asked.walk(i + 1), BAD);
+        }
         of(2, "FULL no more after back()");
         CreweChange z = withStops(1, 2, 3, 4, 5);
         z.keep();

@@ -8,6 +8,7 @@ public final class EdgesWhatToDoTest extends Edge {
         mayTake();
         leavesWithOne();
         walksOn();
+        everyMinute();
         taken();
         sure();
         sureByParts();
@@ -255,6 +256,21 @@ public final class EdgesWhatToDoTest extends Edge {
         due(y.sure(1, 600), 10000);
         of(20, "no WALK where one is at first");
         due(y.mean(1, 600), 61000);
+    }
+
+    /** Twelve trains, each of which waits 30 minutes, none while another one does: as many minutes as can count. */
+    private static void everyMinute() {
+        CreweChange x = withStops(0, 0);
+        for (int i = 0; i < 12; i++) x.train(0, 10, 100 * i, 1 + i);
+        text(x, "waits 30");
+        for (int i = 0; i < 12; i++) {
+            of(20, "each minute at which one of twelve waits");
+            for (int wait = 0; wait <= 30; wait++) due(x.mean(1, 100 * i + wait), 100 * (100 * i + wait + 1 + i));
+            due(x.mean(1, 100 * i + 31), i == 11 ? 288000 : 100 * (100 * i + 102 + i));
+            of(21, "the last minute of each of twelve, and the next");
+            due(x.taken(1, 100 * i + 30), i);
+            due(x.taken(1, 100 * i + 31), i == 11 ? NONE : i + 1);
+        }
     }
 
     private static void taken() {
