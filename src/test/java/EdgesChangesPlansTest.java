@@ -207,6 +207,13 @@ public final class EdgesChangesPlansTest extends Edge {
         refused(Edge::crewe, NO, y -> y.mends(1, 0, 1), y -> y.mends(0, 3, 10000));
         of(14, "BAD ahead of NO");
         refused(Edge::crewe, BAD, y -> y.mends(1, 0, 0), y -> y.mends(1, 0, 10001));
+        of(14, "the last TRAINS that there are");
+        CreweChange last = withStops(0, 0);
+        for (int i = 0; i < 12; i++) last.train(0, i % 2 == 0 ? 1 : 10, 100 + i, 1);
+        due(last.mends(10, 11, 10000), 0);
+        due(last.mends(11, 10, 10000), 2);
+        due(last.mends(11, 12, 1), BAD);
+        due(last.mends(12, 11, 1), BAD);
         of(14, "the call changes nothing");
         CreweChange z = crewe();
         z.mends(0, 1, 10000);
